@@ -1,13 +1,13 @@
 /** Promise 27: digest. */
 public final class DigestTest {
     public static void main(String[] args) {
-        literals();
+        withAStop();
         listOfTheDocument();
         everyShare();
         Check.end();
     }
 
-    private static void literals() {
+    private static void withAStop() {
         LateDoves cote = new LateDoves();
         cote.shut(0);
         cote.open(0);
