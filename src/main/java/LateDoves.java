@@ -414,9 +414,7 @@ public final class LateDoves {
             case 'x':
                 return playShut(first);
             case 'o':
-                if (isHole(first)) {
-                    now.setOpen(first, 1);
-                }
+                now.setOpen(first, 1);
                 return NO_REASON;
             default:
                 now.endNight();
@@ -702,7 +700,7 @@ public final class LateDoves {
         }
 
         int reasonNotToShut(int hole) {
-            if (holes[SITTER][hole] != NONE) {
+            if (isHole(hole) && holes[SITTER][hole] != NONE) {
                 return HOLE_TAKEN;
             }
             return isOpen(hole) ? NO_REASON : SHUT_ALREADY;
@@ -712,7 +710,7 @@ public final class LateDoves {
             if (doveCount() >= DOVES) {
                 return COTE_FULL;
             }
-            if (holes[OWNER][hole] != NONE) {
+            if (isHole(hole) && holes[OWNER][hole] != NONE) {
                 return HOLE_OWNED;
             }
             return isOpen(hole) ? NO_REASON : HOLE_SHUT;
@@ -769,7 +767,9 @@ public final class LateDoves {
         }
 
         void setOpen(int hole, int open) {
-            holes[IS_OPEN][hole] = open;
+            if (isHole(hole)) {
+                holes[IS_OPEN][hole] = open;
+            }
         }
 
         void noteStop(int part, int reason) {

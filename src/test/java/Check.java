@@ -2,6 +2,7 @@
 final class Check {
     private static int asked = 0;
     private static int wrong = 0;
+    private static String sentence = "";
 
     /** A call of the class under test. */
     interface Call {
@@ -11,12 +12,18 @@ final class Check {
     private Check() {
     }
 
+    /** A test of one sentence of the document, that stands in these words below this heading. */
+    static void sentence(String heading, String words, Runnable test) {
+        sentence = heading + ", \"" + words + "\": ";
+        due("the document says so", Doc.says(heading, words) ? 1 : 0, 1);
+        int before = asked;
+        test.run();
+        due("the test of it asks for answers", asked > before ? 1 : 0, 1);
+        sentence = "";
+    }
+
     static void due(String what, long got, long want) {
-        asked++;
-        if (got != want) {
-            wrong++;
-            System.out.println(what + " answered " + got + ", due is " + want);
-        }
+        dueText(what, String.valueOf(got), String.valueOf(want));
     }
 
     static void dueDouble(String what, double got, double want) {
@@ -27,7 +34,7 @@ final class Check {
         asked++;
         if (!want.equals(got)) {
             wrong++;
-            System.out.println(what + " answered " + got + ", due is " + want);
+            System.out.println(sentence + what + " answered " + got + ", due is " + want);
         }
     }
 

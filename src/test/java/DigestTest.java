@@ -1,3 +1,5 @@
+import java.util.function.Supplier;
+
 /** Promise 27: digest. */
 public final class DigestTest {
     public static void main(String[] args) {
@@ -17,56 +19,93 @@ public final class DigestTest {
         Check.due("digest() against the list", cote.digest(), byTheList(cote, ""));
     }
 
+    /** Each past is made anew for each look, as an object answers 512 calls. */
     private static void listOfTheDocument() {
-        LateDoves cote = new LateDoves();
-        Check.due("digest() of a new object", cote.digest(), byTheList(cote, ""));
-        Check.pass(cote, "b0!5;b1!3;b2!1;b23!9;b7!7;m0+1;x3;x4;h0@100;h1@200");
-        same(cote);
-        cote.sell(2);
-        same(cote);
-        cote.buy(5, 5);
-        same(cote);
-        Check.shutAllBut(openAll(cote), 0, 1);
-        same(cote);
-        cote.home(3, 1200);
-        same(cote);
-        Check.pass(cote, "^;h0@1;h9@2");
-        same(cote);
-        cote.keep();
-        cote.dawn();
-        cote.restore();
-        same(cote);
-        cote.undo();
-        same(cote);
+        same(LateDoves::new);
+        same(DigestTest::doves);
+        same(() -> {
+            LateDoves cote = doves();
+            cote.sell(2);
+            return cote;
+        });
+        same(DigestTest::crowded);
+        same(() -> {
+            LateDoves cote = crowded();
+            Check.pass(cote, "^;h0@1;h9@2");
+            return cote;
+        });
+        same(() -> {
+            LateDoves cote = crowded();
+            cote.keep();
+            cote.dawn();
+            cote.restore();
+            return cote;
+        });
+        same(() -> {
+            LateDoves cote = crowded();
+            cote.dawn();
+            cote.undo();
+            return cote;
+        });
+        same(Cotes::few);
+        same(Cotes::many);
+        same(() -> Cotes.longRow(24));
+        same(Cotes::full);
+        for (int dusk = 1437; dusk <= 1439; dusk++) {
+            int it = dusk;
+            same(() -> lastMinutes(it, 0));
+            same(() -> lastMinutes(it, 1438));
+            same(() -> lastMinutes(it, 1439));
+        }
     }
 
-    private static LateDoves openAll(LateDoves cote) {
-        for (int hole = 0; hole < 24; hole++) {
-            cote.open(hole);
-        }
+    /** Dove 1 is out at this time: in its own hole 2, if it comes in time, and beside its mate in 9, if it is late. */
+    private static LateDoves lastMinutes(int dusk, int now) {
+        LateDoves cote = new LateDoves();
+        cote.buy(10, 1);
+        cote.buy(2, 1);
+        cote.mate(0, 1);
+        cote.set(0, dusk);
+        cote.home(0, now);
         return cote;
     }
 
-    private static void same(LateDoves cote) {
-        Check.due("digest() against the list", cote.digest(), byTheList(cote, ""));
-        Check.write(cote, "h1@~!;");
-        Check.due("digest() with a text", cote.digest(), byTheList(cote, "h1@~!;"));
-        cote.clearBuffer();
-        Check.due("digest() without the text", cote.digest(), byTheList(cote, ""));
+    private static LateDoves doves() {
+        LateDoves cote = new LateDoves();
+        Check.pass(cote, "b0!5;b1!3;b2!1;b23!9;b7!7;m0+1;x3;x4;h0@100;h1@200");
+        return cote;
+    }
+
+    private static LateDoves crowded() {
+        LateDoves cote = doves();
+        cote.open(3);
+        cote.open(4);
+        Check.shutAllBut(cote, 0, 1);
+        cote.home(3, 1200);
+        return cote;
+    }
+
+    private static void same(Supplier<LateDoves> past) {
+        for (String text : new String[] {"", "h1@~!;", Cotes.FULL_TEXT}) {
+            LateDoves cote = past.get();
+            Check.write(cote, text);
+            Check.due("digest() against the list, text " + text, cote.digest(), byTheList(cote, text));
+        }
     }
 
     /** Each share of up to 16 doves, as its bits go into the hash. */
     private static void everyShare() {
         for (int doves = 1; doves <= 16; doves++) {
-            LateDoves cote = new LateDoves();
-            for (int i = 0; i < doves; i++) {
-                cote.buy(i, 5);
+            for (int home = 0; home <= doves; home++) {
+                LateDoves cote = new LateDoves();
+                for (int i = 0; i < doves; i++) {
+                    cote.buy(i, 5);
+                }
+                for (int i = 0; i < home; i++) {
+                    cote.home(i, i);
+                }
+                Check.due("digest() at " + home + " of " + doves, cote.digest(), byTheList(cote, ""));
             }
-            for (int i = 0; i < doves; i++) {
-                Check.due("digest() at " + i + " of " + doves, cote.digest(), byTheList(cote, ""));
-                cote.home(i, i);
-            }
-            Check.due("digest() at all of " + doves, cote.digest(), byTheList(cote, ""));
         }
     }
 

@@ -10,8 +10,9 @@ import java.util.regex.Pattern;
  * holes only as what the doves tell, texts by a regular expression. The runs are the same each time.
  */
 public final class ModelTest {
-    private static final int RUNS = 400;
+    private static final int RUNS = 800;
     private static final int CALLS = 512;
+    private static int callsLeft;
     private static long seed = 1;
 
     private static int below(int bound) {
@@ -566,7 +567,12 @@ public final class ModelTest {
         }
     }
 
+    /** Makes a call of both, as long as the object has calls left; true if they answer alike and hold the same. */
     private static boolean both(LateDoves cote, Model model, int call, int... n) {
+        if (callsLeft < 2) {
+            return true;
+        }
+        callsLeft -= 2;
         String want = answer(null, model, call, n);
         String got = answer(cote, model, call, n);
         String what = NAMES[call] + Arrays.toString(n);
@@ -594,6 +600,9 @@ public final class ModelTest {
         int doves = below(17);
         int from = below(24);
         boolean dense = below(2) == 0;
+        if (below(4) == 0) {
+            return row(cote, model, from);
+        }
         for (int i = 0; i < doves && well; i++) {
             int hole = dense ? (from + i) % 24 : below(24);
             int strength = dense && below(3) > 0 ? Math.max(1, 9 - i / 2 - below(2)) : 1 + below(9);
@@ -604,6 +613,23 @@ public final class ModelTest {
             int hole = (from + i) % 24;
             boolean shuts = dense ? i == 0 || i > left : below(2) == 0;
             well = !shuts || both(cote, model, 3, hole, 0, 0);
+        }
+        return well;
+    }
+
+    /** As Cotes.longRow(), but at any hole, and now and then with one dove less. */
+    private static boolean row(LateDoves cote, Model model, int from) {
+        boolean well = both(cote, model, 0, (from + 12) % 24, 1 + below(9), 0)
+            && both(cote, model, 5, 1, 4 + below(9), 0);
+        for (int i = 0; i < 9 && well; i++) {
+            well = both(cote, model, 0, (from + i) % 24, 9 - i, 0);
+        }
+        for (int i = 0; i < 24 && well; i++) {
+            boolean stays = i == 12 || i >= 1 && i <= 8;
+            well = stays || both(cote, model, 3, (from + i) % 24, 0, 0);
+        }
+        for (int dove = 9; dove > 0 && well; dove--) {
+            well = below(20) == 0 || both(cote, model, 6, dove, 0, 0);
         }
         return well;
     }
@@ -666,9 +692,10 @@ public final class ModelTest {
         int longest = 0;
         for (int run = 0; run < RUNS; run++) {
             LateDoves cote = new LateDoves();
+            callsLeft = CALLS;
             Model model = new Model();
             boolean well = crowd(cote, model);
-            for (int i = 0; i < CALLS / 2 && well; i++) {
+            while (well && callsLeft >= 2) {
                 well = next(cote, model);
                 longest = Math.max(longest, model.loft.steps.size());
             }

@@ -79,7 +79,7 @@ public final class TextsTest {
         int[] highest = {15, 1439, 23, 9, 15, 15, 23, 23};
         for (int i = 0; i < before.length; i++) {
             for (int number = 0; number <= highest[i] + 30; number++) {
-                if (number % 50 == 49) {
+                if (number % 30 == 29) {
                     cote = new LateDoves();
                 }
                 String text = before[i] + number;
