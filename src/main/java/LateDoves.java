@@ -198,7 +198,22 @@ public final class LateDoves {
             throw new IllegalArgumentException("the buffer is not a complete evening");
         }
         save();
-        int happened = playEvening();
+        now.noteStop(NONE, NONE);
+        reader.begin();
+        int happened = 0;
+        int reason = NO_REASON;
+        for (int i = 0; i <= length && reason == NO_REASON; i++) {
+            if (i == length || buffer[i] == ';') {
+                reason = playPart();
+                happened += reason == NO_REASON ? 1 : 0;
+            }
+            if (i < length) {
+                reader.take(buffer[i]);
+            }
+        }
+        if (reason != NO_REASON) {
+            now.noteStop(happened, reason);
+        }
         length = 0;
         return happened;
     }
@@ -378,27 +393,6 @@ public final class LateDoves {
     }
 
     // ---- texts, part by part
-
-    /** Lets the parts of a complete evening happen and keeps its stop; returns how many happened. */
-    private int playEvening() {
-        now.noteStop(NONE, NONE);
-        reader.begin();
-        int happened = 0;
-        for (int i = 0; i <= length; i++) {
-            if (i == length || buffer[i] == ';') {
-                int reason = playPart();
-                if (reason != NO_REASON) {
-                    now.noteStop(happened, reason);
-                    return happened;
-                }
-                happened++;
-            }
-            if (i < length) {
-                reader.take(buffer[i]);
-            }
-        }
-        return happened;
-    }
 
     /** Lets the part in the reader happen, if nothing stands against it; returns the reason against it. */
     private int playPart() {
@@ -601,7 +595,7 @@ public final class LateDoves {
         }
 
         boolean isFree(int hole) {
-            return isOpen(hole) && holes[SITTER][hole] == NONE;
+            return isHole(hole) && holes[IS_OPEN][hole] == 1 && holes[SITTER][hole] == NONE;
         }
 
         int numberOf(int what) {

@@ -15,7 +15,7 @@ final class Check {
     /** A test of one sentence of the document, that stands in these words below this heading. */
     static void sentence(String heading, String words, Runnable test) {
         sentence = heading + ", \"" + words + "\": ";
-        due("the document says so", Doc.says(heading, words) ? 1 : 0, 1);
+        due("the document says so", !Doc.isThere() || Doc.says(heading, words) ? 1 : 0, 1);
         int before = asked;
         test.run();
         due("the test of it asks for answers", asked > before ? 1 : 0, 1);

@@ -259,6 +259,7 @@ public final class EdgesOfUndoTest {
         Check.due("undo()", cote.undo(), 5);
         Check.due("undo() of restore(): the day", cote.count(0), 1);
         Check.due("undo() of restore(): hole 12", cote.hole(12, 2), 1);
+        latestComingHomeComesBack();
         LateDoves empty = new LateDoves();
         empty.keep();
         empty.dawn();
@@ -266,6 +267,26 @@ public final class EdgesOfUndoTest {
         empty.dawn();
         empty.restore();
         Check.due("the snapshot of an empty dovecote", empty.count(0), 0);
+    }
+
+    /** The steps are of the state: those of the snapshot, and none, if none were there. */
+    private static void latestComingHomeComesBack() {
+        LateDoves cote = Cotes.longRow(24);
+        cote.home(0, 6);
+        cote.keep();
+        cote.dawn();
+        cote.home(9, 0);
+        Check.steps(cote, "ahead of restore()", 9, 8);
+        cote.restore();
+        Check.steps(cote, "of the snapshot", 0, 20, 1, 1, 2, 2, 3, 3, 4, 4, 5, 5, 6, 6, 7, 7, 8, 8, 9, LateDoves.ROOF);
+        cote.undo();
+        Check.steps(cote, "behind undo() of restore()", 9, 8);
+        LateDoves none = new LateDoves();
+        none.keep();
+        none.buy(0, 1);
+        none.home(0, 0);
+        none.restore();
+        Check.steps(none, "of a snapshot without a coming home");
     }
 
     private static String restored(LateDoves cote) {

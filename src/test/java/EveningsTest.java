@@ -317,28 +317,13 @@ public final class EveningsTest {
         Check.due("a shifted one is not late", mates.dove(1, 4), 0);
     }
 
-    /** Dove 0 (hole 20) is in time; dove 1 (strength 9) sits there; doves 2 to 9, ever weaker, in holes 1 to 8. */
-    private static LateDoves longRow(int limit) {
-        LateDoves cote = new LateDoves();
-        cote.buy(20, 1);
-        for (int hole = 0; hole <= 8; hole++) {
-            cote.buy(hole, 9 - hole);
-        }
-        Check.shutAllBut(cote, 20, 1, 2, 3, 4, 5, 6, 7, 8);
-        for (int dove = 9; dove > 0; dove--) {
-            cote.home(dove, 5);
-        }
-        cote.set(1, limit);
-        return cote;
-    }
-
     private static void longestWay() {
-        LateDoves cote = longRow(24);
+        LateDoves cote = Cotes.longRow(24);
         Check.due("the longest way", cote.home(0, 6), 9);
         Check.steps(cote, "the longest way", 0, 20, 1, 1, 2, 2, 3, 3, 4, 4, 5, 5, 6, 6, 7, 7, 8, 8, 9, ROOF);
         Check.due("shifts", cote.count(9), 9);
 
-        LateDoves eight = longRow(8);
+        LateDoves eight = Cotes.longRow(8);
         Check.due("at most 8", eight.home(0, 6), 8);
         Check.steps(eight, "at most 8", 0, 20, 1, 1, 2, 2, 3, 3, 4, 4, 5, 5, 6, 6, 7, 7, 8, ROOF);
         Check.due("dove 9 stays", eight.dove(9, 2), 8);
