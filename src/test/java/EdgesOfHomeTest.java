@@ -345,11 +345,10 @@ public final class EdgesOfHomeTest {
         Cotes.buyShut(last, 0, 9);
         last.home(1, 1439);
         Check.due("23 is not beside 0 for a shift", last.dove(1, 2), ROOF);
-        two(last);
+        secondOnTheRoof(last);
     }
 
-    /** More than one sits on the roof. */
-    private static void two(LateDoves cote) {
+    private static void secondOnTheRoof(LateDoves cote) {
         Cotes.buyShut(cote, 10, 9);
         cote.home(2, 1439);
         Check.due("a second one on the roof", cote.dove(2, 2), ROOF);
