@@ -22,7 +22,8 @@ final class Doc {
         return below(heading).contains(words);
     }
 
-    private static String below(String heading) {
+    /** The text below this heading, in one line. */
+    static String below(String heading) {
         StringBuilder text = new StringBuilder();
         boolean inside = false;
         for (String line : lines()) {
